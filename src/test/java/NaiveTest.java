@@ -20,21 +20,39 @@ public final class NaiveTest {
     private NaiveTest(int run) {
         this.run = run;
         dice = new Random(run);
-        places = 2 + dice.nextInt(5);
+        places = run % 5 == 0 ? 4 : 2 + dice.nextInt(5);
         mostRoads = dice.nextInt(3) == 0 ? 10 : 3 + dice.nextInt(6);
         mostDrivers = dice.nextInt(3) == 0 ? 5 : 1 + dice.nextInt(4);
         narrow = dice.nextBoolean();
     }
 
+    /** The town in which one more road makes all slower, with numbers of its own: there heaps agree. */
+    private void buildHarmfulRoad() {
+        int[][] roads = {{0, 0, 1}, {2, 0, 2}, {2, 1, 3}, {0, 2, 3}, {2, 1, 2}};
+        for (int i = 0; i < roads.length; i++) {
+            int flat = i == 4 ? dice.nextInt(3) : 15 + dice.nextInt(30);
+            int[] one = {roads[i][0], roads[i][1], roads[i][2], 8 + dice.nextInt(5), roads[i][0] == 0 ? 0 : flat};
+            Due.is("run " + run + ": road " + i, answer(0, one), due(0, one));
+        }
+        for (int d = 0; d < 3 + run % 3; d++) {
+            int[] trip = {0, 3};
+            Due.is("run " + run + ": driver " + d, answer(9, trip), due(9, trip));
+        }
+    }
+
     public static void main(String[] args) {
-        for (int run = 0; run < 260; run++) {
+        for (int run = 0; run < 600; run++) {
             new NaiveTest(run).go();
         }
         Due.end();
     }
 
     private void go() {
-        for (int i = 0; i < CALLS_OF_ONE; i++) {
+        boolean harmful = run % 5 == 0;
+        if (harmful) {
+            buildHarmfulRoad();
+        }
+        for (int i = harmful ? 100 : 0; i < CALLS_OF_ONE - 1; i++) {
             int which = dice.nextInt(CALLS.length);
             boolean building = which == 0 && naive.count(0) >= mostRoads || which == 9 && naive.count(1) >= mostDrivers;
             if (building && dice.nextInt(20) != 0) {
@@ -51,6 +69,10 @@ public final class NaiveTest {
                 continue;
             }
             call(which);
+            if (CALLS[which].equals("rest") && naive.habits() < 300) {
+                i++;
+                call(25);
+            }
         }
     }
 
@@ -75,6 +97,19 @@ public final class NaiveTest {
         return some(places);
     }
 
+    /** Two places, most often those of a road ahead or of the whole trip, so that ways are found. */
+    private int[] trip(boolean whole) {
+        if (dice.nextInt(8) == 0) {
+            return new int[] {place(), place()};
+        }
+        if (whole && dice.nextInt(4) != 0) {
+            return new int[] {0, places - 1};
+        }
+        int from = dice.nextInt(places - 1);
+        int step = dice.nextInt(3) == 0 ? places : 2;
+        return new int[] {from, Math.min(places - 1, from + 1 + dice.nextInt(step))};
+    }
+
     private int b() {
         return narrow ? some(12) : dice.nextInt(6) == 0 ? some(1001) : some(60);
     }
@@ -89,9 +124,10 @@ public final class NaiveTest {
 
     private void call(int which) {
         int p = 0, q = 0, r = 0, s = 0, t = 0;
+        int[] trip = trip(which == 9);
         switch (CALLS[which]) {
-            case "road": p = dice.nextInt(3) == 0 ? 0 : some(4); q = place(); r = place(); s = some(13); t = b(); break;
-            case "open": p = road(); q = dice.nextInt(4) == 0 ? 0 : some(2) | (dice.nextBoolean() ? 1 : 0); break;
+            case "road": p = dice.nextInt(3) == 0 ? 0 : some(4); q = trip[0]; r = trip[1]; s = some(13); t = b(); break;
+            case "open": p = road(); q = dice.nextInt(4) == 0 ? some(2) : 1; break;
             case "table": p = road(); q = some(2); r = dice.nextInt(8) == 0 ? -1 : some(7); break;
             case "enter": p = road(); q = some(6); r = value(); break;
             case "copy": p = road(); q = road(); r = some(7); break;
@@ -99,17 +135,17 @@ public final class NaiveTest {
             case "about": p = road(); q = some(9); break;
             case "isOf": p = road(); q = some(4); break;
             case "takes": p = road(); q = some(7); break;
-            case "driver": p = place(); q = place(); break;
+            case "driver": p = trip[0]; q = trip[1]; break;
             case "ways": case "reply": p = driver(); break;
             case "way": p = driver(); q = some(Math.max(0, naive.ways(p))); r = some(6); break;
             case "choose": p = driver(); q = dice.nextInt(9) == 0 ? -1 : some(Math.max(0, naive.ways(p))); break;
             case "told": p = driver(); q = some(5); break;
             case "now": case "extreme": p = some(3); break;
             case "habit": p = some(Math.max(0, naive.habits())); break;
-            case "rest": p = some(4); break;
+            case "rest": p = dice.nextBoolean() ? 0 : some(4); break;
             case "price": p = some(2); break;
             case "better": p = dice.nextInt(9) == 0 ? 201 : some(201); break;
-            case "level": p = place(); q = place(); r = much(); s = some(2); t = some(2); break;
+            case "level": p = trip[0]; q = trip[1]; r = much(); s = some(2); t = some(2); break;
             case "share": p = road(); q = much(); r = some(2); s = some(2); break;
             case "count": p = some(6); break;
             default: break;
