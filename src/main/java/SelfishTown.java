@@ -34,8 +34,9 @@ public final class SelfishTown {
     private static final int MOST_LENGTH = PLACES - 1;
 
     /**
-     * Where a row of roads parts is told by how many go out of each PLACE on it; the WAYS are at
-     * most the product of these, and of numbers that are 10 together it is 3 * 3 * 4 at most.
+     * A driver who takes any road out of each place, all with the same chance, comes upon a WAY with
+     * a chance of 1 by the product of how many roads leave its places. These are 10 at most together,
+     * so no product is above 3 * 3 * 4; the chances are 1 at most together, so no more WAYS are there.
      */
     private static final int MOST_WAYS = 36;
 
@@ -916,7 +917,7 @@ public final class SelfishTown {
         private int most() {
             int greatest = 0;
             for (int d = 0; d < town.driverCount; d++) {
-                greatest = Math.max(greatest, timeOf(d));
+                greatest = Math.max(greatest, along(d, choices[d], times));
             }
             return greatest;
         }
@@ -947,7 +948,7 @@ public final class SelfishTown {
         /** The least driver for whom another way would cost less; NONE, if all rest. */
         private int leastRestless() {
             for (int d = 0; d < town.driverCount; d++) {
-                int cost = costOf(d);
+                int cost = along(d, choices[d], costs);
                 for (int w = 0; w < paths.counts[d]; w++) {
                     if (along(d, w, costs) < cost) {
                         return d;
@@ -1084,7 +1085,7 @@ public final class SelfishTown {
                 crowd.saveTo(bestHabit);
             }
             leastMost = Math.min(leastMost, crowd.most());
-            if (crowd.isAtRest()) {
+            if (crowd.leastRestless() == NONE) {
                 restCount++;
                 leastRest = Math.min(leastRest, sum);
                 greatestRest = Math.max(greatestRest, sum);
