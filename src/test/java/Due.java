@@ -14,6 +14,14 @@ final class Due {
         }
     }
 
+    static void same(String what, String got, String want) {
+        seen++;
+        if (!got.equals(want)) {
+            wrong++;
+            System.out.println(what + ":\n  seen " + got + "\n  due  " + want);
+        }
+    }
+
     static void holds(String what, boolean truth) {
         is(what, truth ? 1 : 0, 1);
     }
