@@ -225,6 +225,9 @@ public final class EdgesOfChangesTest {
             Still.asBefore("question " + which, Towns::calm, t -> question(t, it));
             Still.asBefore("question " + which, Towns::full, t -> question(t, it));
             Still.asBefore("question " + which, SelfishTown::new, t -> question(t, it));
+            SelfishTown asked = Towns.lively();
+            long first = question(asked, it);
+            Due.is("question " + which + " again", question(asked, it), first);
         }
     }
 

@@ -25,6 +25,7 @@ public final class EdgesOfDriversTest {
         toldGreatest();
         toldRefused();
         nowWithSomeWithout();
+        nowMostOfEach();
         nowOfEquals();
         nowRefused();
         storeOfSome();
@@ -132,7 +133,7 @@ public final class EdgesOfDriversTest {
         Due.is("way(0, 0, 0)", t.way(0, 0, 0), 9);
     }
 
-    /** "each beginning where the one ahead ends, no PLACE twice": neither its first nor its last one. */
+    /** "each beginning where the one ahead ends, no PLACE twice": not its first, nor its last, nor one between. */
     private static void waysNoPlaceTwice() {
         SelfishTown t = new SelfishTown();
         t.road(2, 1, 0, 0, 1);
@@ -141,6 +142,8 @@ public final class EdgesOfDriversTest {
         t.road(2, 1, 2, 0, 1);
         t.road(2, 2, 0, 0, 1);
         t.road(2, 0, 2, 0, 1);
+        t.road(2, 1, 3, 0, 1);
+        t.road(2, 3, 1, 0, 1);
         t.driver(0, 2);
         int[][] due = {{1, 3, NONE}, {5, NONE, NONE}};
         Due.is("ways(0)", t.ways(0), 2);
@@ -366,6 +369,22 @@ public final class EdgesOfDriversTest {
             for (int what = 0; what <= 2; what++) {
                 Due.is("now(" + what + ")", t.now(what), NO);
             }
+        }
+    }
+
+    /** "ITS MOST: the greatest TIME", whoever has it. */
+    private static void nowMostOfEach() {
+        for (int slow = 0; slow < 5; slow++) {
+            SelfishTown t = new SelfishTown();
+            t.road(2, 0, 1, 0, 1);
+            t.road(2, 2, 3, 0, 1000);
+            for (int d = 0; d < 5; d++) {
+                t.driver(d == slow ? 2 : 0, d == slow ? 3 : 1);
+                t.choose(d, 0);
+            }
+            Due.is("SUM", t.now(0), 1004);
+            Due.is("MOST", t.now(1), 1000);
+            Due.is("extreme(2)", t.extreme(2), 1000);
         }
     }
 

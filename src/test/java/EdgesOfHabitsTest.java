@@ -7,13 +7,16 @@ public final class EdgesOfHabitsTest {
 
     public static void main(String[] args) {
         justAsManyAsCanBe();
+        lastOfAsManyAsCanBe();
         justTooMany();
         asManyAgain();
         tooManyForEach();
         noWayForEach();
         habitFirstAndLast();
+        habitWithOneWay();
         habitRefused();
         bestFirstOfSeveral();
+        bestIsTheLastHabit();
         restsAlwaysOne();
         restFirstAndLast();
         restBelowZero();
@@ -91,6 +94,34 @@ public final class EdgesOfHabitsTest {
         Due.is("agrees()", t.agrees(), NONE);
         t.toll(3, 1);
         Due.is("agrees() with a toll", t.agrees(), 1);
+    }
+
+    /** 20 * 20 * 5 HABITS; only by the last of them all gain, or the SUM is least. */
+    private static void lastOfAsManyAsCanBe() {
+        SelfishTown t = new SelfishTown();
+        for (int r = 0; r < 8; r++) {
+            t.road(2, r < 4 ? 0 : 1, r < 4 ? 1 : 2, 0, r < 3 ? 1000 : 50);
+        }
+        t.road(3, 1, 2, 0, 0);
+        t.table(8, 0, 3);
+        t.enter(8, 0, 100);
+        t.enter(8, 1, 100);
+        t.driver(0, 2);
+        t.driver(0, 2);
+        t.driver(1, 2);
+        t.choose(0, 15);
+        t.choose(1, 15);
+        t.choose(2, 0);
+        Due.is("habits()", t.habits(), 2000);
+        Due.is("now(0)", t.now(0), 250);
+        Due.is("now(2)", t.now(2), 1);
+        Due.is("agrees()", t.agrees(), 7);
+        Due.is("best()", t.best(), 100);
+        int[] last = {19, 19, 4};
+        for (int d = 0; d < 3; d++) {
+            Due.is("told(" + d + ", 0)", t.told(d, 0), last[d]);
+        }
+        Due.is("agrees() against it", t.agrees(), NONE);
     }
 
     /** "(else LARGE)": of 2002 and of 2048. */
@@ -189,6 +220,24 @@ public final class EdgesOfHabitsTest {
         Still.undone("habit(3)", Towns::livelyWithRoom, x -> x.habit(3));
     }
 
+    /** A driver with one WAY makes no more of them, wherever it stands. */
+    private static void habitWithOneWay() {
+        for (int single = 0; single < 3; single++) {
+            SelfishTown t = Towns.sideBySide(2, 0);
+            t.road(0, 2, 3, 1, 1);
+            for (int d = 0; d < 3; d++) {
+                t.driver(d == single ? 2 : 0, d == single ? 3 : 1);
+            }
+            Due.is("habits()", t.habits(), 4);
+            for (int k = 0; k < 4; k++) {
+                Due.is("habit(" + k + ")", t.habit(k), 0);
+                Due.is("of the one", t.told(single, 0), 0);
+                Due.is("of the first other", t.told(single == 0 ? 1 : 0, 0), k / 2);
+                Due.is("of the last other", t.told(single == 2 ? 1 : 2, 0), k % 2);
+            }
+        }
+    }
+
     /** "BAD: there is none such". */
     private static void habitRefused() {
         for (int k : Towns.outside(0, 3)) {
@@ -217,6 +266,23 @@ public final class EdgesOfHabitsTest {
         Due.is("best() of nothing", free.best(), 0);
         Due.is("told(0, 0)", free.told(0, 0), 0);
         Still.undone("best()", Towns::livelyWithRoom, SelfishTown::best);
+    }
+
+    /** Where each driver's last WAY is the only fast one. */
+    private static void bestIsTheLastHabit() {
+        SelfishTown t = new SelfishTown();
+        for (int i = 0; i < 5; i++) {
+            t.road(2, i, i + 1, 0, 9);
+            t.road(2, i, i + 1, 0, 1);
+            t.driver(i, i + 1);
+        }
+        Due.is("best()", t.best(), 5);
+        for (int d = 0; d < 5; d++) {
+            Due.is("told(" + d + ", 0)", t.told(d, 0), 1);
+        }
+        Due.is("now(2)", t.now(2), 1);
+        Due.is("rest(0)", t.rest(0), 5);
+        Due.is("teach()", t.teach(), 1);
     }
 
     // ---- promises 22 and 23
@@ -480,6 +546,14 @@ public final class EdgesOfHabitsTest {
         Due.is("only the last", last.agrees(), 16);
         last.choose(4, 1);
         Due.is("nobody", last.agrees(), NONE);
+        SelfishTown kept = Towns.sideBySide(3, 2);
+        kept.choose(0, 2);
+        kept.choose(1, 2);
+        kept.toll(0, 9);
+        kept.toll(1, 1);
+        Due.is("as much is not less, with the first still there", kept.agrees(), NONE);
+        kept.toll(2, 1);
+        Due.is("away from the toll", kept.agrees(), 1);
         SelfishTown both = new SelfishTown();
         both.road(2, 0, 1, 0, 50);
         both.road(3, 0, 1, 0, 0);
