@@ -7,6 +7,7 @@ import java.nio.file.Files;
 import java.nio.file.Path;
 import java.util.Set;
 import java.util.TreeSet;
+import java.util.regex.Matcher;
 import java.util.regex.Pattern;
 
 /** The public face, and those rules of LANGUAGE.md that can be seen from outside or in the text. */
@@ -17,6 +18,13 @@ public final class FaceTest {
         "int now 1", "int store 0", "int reply 1", "int habits 0", "int habit 1", "int best 0", "int rests 0",
         "int rest 1", "int extreme 1", "int price 1", "int harms 0", "int agrees 0", "int better 1", "int queue 0",
         "int teach 0", "long level 5", "long share 4", "int undo 0", "int count 1"};
+    /** What the interface says ahead of calls, and these calls, as Terms 5 has them. */
+    private static final String[] SECTIONS = {
+        "the town: road open table enter copy toll about isOf takes",
+        "drivers: driver ways way choose told now store reply",
+        "habits: habits habit best rests rest extreme price harms agrees",
+        "what drivers do: better queue teach",
+        "streams: level share undo count"};
     private static final String[] CONSTANTS = {
         "NONE -1", "BAD -3", "NO -4", "FULL -5", "LARGE -6", "NOTHING -11", "INDEX -13"};
     private static final String[] FORBIDDEN = {
@@ -110,6 +118,26 @@ public final class FaceTest {
             Due.holds("sign " + i + " is plain", text.charAt(i) < 128);
         }
         methodsAreShort(text.split("\n"));
+        sections(text.split("\n"));
+    }
+
+    /** "Ahead of the calls .. the interface says: ---- .." */
+    private static void sections(String[] lines) {
+        StringBuilder got = new StringBuilder();
+        String heading = "";
+        Pattern call = Pattern.compile("    public (?:int|long) (\\w+)\\(.*");
+        for (String line : lines) {
+            if (line.startsWith("    // ---- ")) {
+                heading = line.substring("    // ---- ".length()) + ":";
+                continue;
+            }
+            Matcher it = call.matcher(line);
+            if (it.matches()) {
+                got.append(heading.isEmpty() ? "" : "\n" + heading).append(' ').append(it.group(1));
+                heading = "";
+            }
+        }
+        Due.same("what the interface says", got.toString(), "\n" + String.join("\n", SECTIONS));
     }
 
     /** A method begins with "{" at the end of a line that stands in a class, and ends with "}" below its first sign. */
